@@ -328,7 +328,9 @@ public final class MatrixModule {
 
     /** Arguments have smaller numbers than their operation, so one way down finds them all. */
     private void findLive() {
-        Arrays.fill(live, false);
+        for (int v = 0; v < values; v++) {
+            live[v] = false;
+        }
         for (int v = 0; v < values; v++) {
             if (marked[v]) {
                 live[standIns[v]] = true;
