@@ -31,6 +31,11 @@ abstract class Boundaries {
         check.sentence(place, words);
     }
 
+    /** For what no single call answers. */
+    final void due(String what, long got, long want) {
+        check.due(what, got, want);
+    }
+
     final Traced fresh() {
         return new Traced(check);
     }

@@ -7,6 +7,7 @@ public final class Promise12ValueTest extends Boundaries {
     @Override
     void testAll() {
         everyQuestion();
+        presentOperation();
         anotherWhat();
         numberThatLooksRefused();
         valuesOut();
@@ -29,6 +30,24 @@ public final class Promise12ValueTest extends Boundaries {
         int[] answers = {PART, 1, 2, 0, -1, 3, 1, 0};
         for (int what = 0; what <= 7; what++) {
             x.value(1, what).is(answers[what]);
+        }
+    }
+
+    private void presentOperation() {
+        sentence("Promise 12", "Of value v's present OPERATION");
+        Traced x = freshWith(3, 2);
+        x.source(SPLAT, 3, 2, 4).is(1);
+        x.operation(SUM, 1, 1, 1).is(2);
+        x.operation(MAX, 1, 0, 0).is(3);
+        for (int round = 0; round < 2; round++) {
+            operationIs(x, 2, SUM, 1, -1, 1, 0);
+            operationIs(x, 3, MAX, 1, 0, 0, 0);
+            x.simplify().is(4);
+            operationIs(x, 2, SPLAT, -1, -1, 8, 0);
+            operationIs(x, 3, MAX, 0, 1, 0, 0);
+            shapeIs(x, 2, 3, 1);
+            shapeIs(x, 3, 3, 2);
+            x.mark(2, true).is(DONE);
         }
     }
 

@@ -6,6 +6,7 @@ public final class TermsKindsTest extends Boundaries {
 
     @Override
     void testAll() {
+        parameters();
         counts();
         splats();
         cellByCell();
@@ -35,6 +36,37 @@ public final class TermsKindsTest extends Boundaries {
             }
         }
         return x;
+    }
+
+    private void parameters() {
+        sentence("Terms", "0 PARAMETER p (0 .. 3): any SHAPE, p and q don't tell it.");
+        for (int rows = 1; rows <= 4; rows++) {
+            for (int columns = 1; columns <= 4; columns++) {
+                Traced x = fresh();
+                for (int p = 0; p < 4; p++) {
+                    x.set(p, rows - 1, columns - 1, 100 + p).is(DONE);
+                    x.source(PARAMETER, rows, columns, p).is(p);
+                    x.mark(p, true).is(DONE);
+                }
+                x.work().is(0);
+                for (int p = 0; p < 4; p++) {
+                    shapeIs(x, p, rows, columns);
+                    x.cell(p, rows - 1, columns - 1).is(100 + p);
+                }
+            }
+        }
+        // the same PARAMETER may have several shapes at once
+        Traced x = withCells(4, 4);
+        x.source(PARAMETER, 1, 4, 0).is(1);
+        x.source(PARAMETER, 4, 1, 0).is(2);
+        for (int v = 0; v <= 2; v++) {
+            x.mark(v, true).is(DONE);
+        }
+        x.work().is(0);
+        cellsAre(x, 1, new int[][] {{11, 12, 13, 14}});
+        cellsAre(x, 2, new int[][] {{11}, {21}, {31}, {41}});
+        x.cell(0, 3, 3).is(44);
+        x.simplify().is(3);
     }
 
     private void counts() {

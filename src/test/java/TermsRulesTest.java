@@ -6,6 +6,7 @@ public final class TermsRulesTest extends Boundaries {
 
     @Override
     void testAll() {
+        inOrder();
         argumentsAreReplaced();
         placesChange();
         foldNeedsArguments();
@@ -43,6 +44,33 @@ public final class TermsRulesTest extends Boundaries {
         x.source(PARAMETER, 2, 2, 0).is(0);
         x.source(PARAMETER, 2, 2, 1).is(1);
         return x;
+    }
+
+    private void inOrder() {
+        sentence("Terms", "SIMPLIFYING goes through the values in order");
+        // each value fits its rule only because the one before has been simplified already
+        Traced x = withTwo();
+        x.source(SPLAT, 2, 2, 1).is(2);
+        x.operation(NEG, 2, 2, 0).is(3);
+        x.operation(ADD, 3, 2, 0).is(4);
+        x.operation(MUL, 0, 4, 0).is(5);
+        x.operation(ADD, 1, 5, 0).is(6);
+        x.operation(MAX, 1, 6, 0).is(7);
+        x.operation(TURN, 7, 7, 0).is(8);
+        x.operation(TURN, 1, 1, 0).is(9);
+        x.simplify().is(6);
+        usesAre(x, 2, 1, 1, 1, 0, 2);
+        standInsAre(x, 0, 1, 2, 3, 4, 4, 1, 1, 8, 8);
+        // what comes later is of no use to what came before
+        Traced late = withTwo();
+        late.operation(ADD, 0, 1, 0).is(2);
+        late.source(SPLAT, 2, 2, 0).is(3);
+        late.operation(MUL, 1, 3, 0).is(4);
+        late.operation(ADD, 0, 4, 0).is(5);
+        late.operation(ADD, 1, 5, 0).is(6);
+        late.simplify().is(4);
+        standInsAre(late, 0, 1, 2, 3, 3, 0, 2);
+        usesAre(late, 0, 1, 1, 0, 0, 2);
     }
 
     private void argumentsAreReplaced() {
